@@ -14,7 +14,8 @@ final class Check {
     static final int UNKNOWN = -1, OUTSIDE = -2, STATE = -3, FULL = -4, NO = -5, NONE = -6;
     static final int MIN = Integer.MIN_VALUE, MAX = Integer.MAX_VALUE;
     /** No station: below, above, and such as would be one if they were left over by 64, 256, or 65536. */
-    static final int[] NO_STATIONS = {-1, 61, -2, 62, 63, 64, 69, 124, -59, -64, 256, 65536, MIN, MIN + 5, MAX, MAX - 1};
+    static final int[] NO_STATIONS =
+        {-1, 61, -2, 62, 63, 64, 69, 124, -59, -64, 256, 65536, MIN, MIN + 5, MAX, MAX - 1};
     /** No length: likewise. */
     static final int[] NO_LENGTHS = {0, 61, -1, -60, 62, 63, 64, 65, 74, -63, 257, 65537, MIN, MIN + 1, MAX};
     /** No phase: below, above, and such as would be one if they were left over by 360. */

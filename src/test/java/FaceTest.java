@@ -11,9 +11,9 @@ import java.util.regex.Pattern;
 
 /** The public face, and those rules of LANGUAGE.md that can be looked at from outside. */
 public final class FaceTest {
-    private static final String[] METHODS = {"closure/3", "cover/2", "error/2", "facts/1", "image/1", "left/1", "lift/1",
-        "missed/1", "phase/2", "put/1", "restore/1", "ruler/2", "sky/2", "spacing/1", "stand/3", "station/1", "sure/0",
-        "told/1", "undo/0"};
+    private static final String[] METHODS = {"closure/3", "cover/2", "error/2", "facts/1", "image/1", "left/1",
+        "lift/1", "missed/1", "phase/2", "put/1", "restore/1", "ruler/2", "sky/2", "spacing/1", "stand/3", "station/1",
+        "sure/0", "told/1", "undo/0"};
     private static final String[] CONSTANTS = {"UNKNOWN", "OUTSIDE", "STATE", "FULL", "NO", "NONE"};
     /** An arrow is fine behind case and default alone: anywhere else it is that of a lambda. */
     private static final String[] FORBIDDEN = {"\\bthrow\\b", "\\btry\\b", "\\bcatch\\b", "\\bsynchronized\\b",

@@ -122,8 +122,10 @@ public final class Promise10StandTest {
     static void whatIsNotSearchedDoesNotStand() {
         Check.sentence("Promise 10", OUTSIDE_WORDS);
         SparseDishes x = Check.dishesAt(2, 4);
-        Check.dueOfAll("stand(0, n, 0)", n -> x.stand(0, n, 0), Check.OUTSIDE, 1, 8, 0, -1, 20, 34, Check.MIN, Check.MAX);
-        Check.dueOfAll("stand(1, n, 0)", n -> x.stand(1, n, 0), Check.OUTSIDE, 0, 21, -1, 33, 65, Check.MIN, Check.MAX);
+        Check.dueOfAll("stand(0, n, 0)", n -> x.stand(0, n, 0), Check.OUTSIDE,
+            1, 8, 0, -1, 20, 34, Check.MIN, Check.MAX);
+        Check.dueOfAll("stand(1, n, 0)", n -> x.stand(1, n, 0), Check.OUTSIDE,
+            0, 21, -1, 33, 65, Check.MIN, Check.MAX);
         nothingIsDone(x);
         Check.due("8 is OUTSIDE by kind 0 alone: stand(1, 8, 0)", x.stand(1, 8, 0), 5);
     }

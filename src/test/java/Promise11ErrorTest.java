@@ -32,6 +32,7 @@ public final class Promise11ErrorTest {
         SparseDishes x = Check.dishesAt(0, 60);
         Check.dueOfAll("error(s, 1)", s -> x.error(s, 1), Check.UNKNOWN, 1, 59);
         Check.dueOfAll("error(s, 1)", s -> x.error(s, 1), Check.UNKNOWN, Check.NO_STATIONS);
+        Check.dueOfAll("error(1, p)", p -> x.error(1, p), Check.UNKNOWN, Check.NO_PHASES);
         Check.due("told(101)", x.told(101), Check.NONE);
         x.lift(60);
         Check.due("gone: error(60, 1)", x.error(60, 1), Check.UNKNOWN);

@@ -82,7 +82,8 @@ public final class Promise18ImageTest {
     static void thereIsNoOtherImage() {
         Check.sentence("Promise 18", "OUTSIDE.");
         SparseDishes x = Check.dishesAt(0);
-        Check.dueOfAll("image", x::image, Check.OUTSIDE, -1, 2, 3, 32, 33, 64, 256, Check.MIN, Check.MIN + 1, Check.MAX);
+        Check.dueOfAll("image", x::image, Check.OUTSIDE,
+            -1, 2, 3, 32, 33, 64, 256, Check.MIN, Check.MIN + 1, Check.MAX);
         Check.due("nothing is kept: restore(0)", x.restore(0), Check.STATE);
         Check.due("nothing is kept: restore(1)", x.restore(1), Check.STATE);
     }

@@ -12,6 +12,7 @@ import java.util.stream.Stream;
 /** That the words which the tests name are the document's, and that each word of the document is named by a test. */
 public final class SentencesTest {
     private static final Path DOCUMENT = Path.of("../shared/DOC.md");
+    private static final Path LANGUAGE = Path.of("../shared/LANGUAGE.md");
     private static final Path TESTS = Path.of("src/test/java");
     private static final String LITERAL = "\"(?:[^\"\\\\]|\\\\.)*\"";
     /** A text, or the name of one, or several of them put together. */
@@ -22,7 +23,8 @@ public final class SentencesTest {
     private static final Pattern CONSTANT = Pattern.compile(
         "private static final String ([A-Z_0-9]+) =\\s*(" + TEXT + ")\\s*;");
     /** What only says where a call stands in the interface, or how a promise is called, is nothing to be tested. */
-    private static final String NO_SENTENCES = "Ahead of the calls [^.]*---- [^.]*\\.|`[A-Za-z ]*\\([a-z, ]*\\)`:|```(text)?";
+    private static final String NO_SENTENCES =
+        "Ahead of the calls [^.]*---- [^.]*\\.|`[A-Za-z ]*\\([a-z, ]*\\)`:|```(text)?";
 
     /** What a test names: where the document says it, and its words there. */
     private record Named(String where, String words) {
@@ -33,17 +35,27 @@ public final class SentencesTest {
     }
 
     static void eachSentenceThatATestNamesIsTheDocuments() throws IOException {
-        Check.sentence("DOC.md", "each sentence that a test names is there");
+        Check.sentence("SentencesTest", "each sentence that a test names is there");
         Map<String, String> sections = sections();
+        String language = oneLine(Files.readString(LANGUAGE));
         for (Named named : allNamed()) {
-            if (!sections.containsKey(named.where())) continue;
-            Check.holds(named.where() + " says \"" + named.words() + "\"",
-                sections.get(named.where()).contains(named.words()));
+            if (named.where().equals("SentencesTest")) continue;
+            String says = named.where().startsWith("LANGUAGE.md") ? language : sections.getOrDefault(named.where(), "");
+            Check.holds(named.where() + " says \"" + named.words() + "\"", says.contains(named.words()));
+        }
+    }
+
+    static void eachTestIsSeenHere() throws IOException {
+        Check.sentence("SentencesTest", "no sentence is named in a way that is overlooked here");
+        for (Path file : files()) {
+            String code = Files.readString(file);
+            long calls = Pattern.compile("^ +Check\\.sentence\\(", Pattern.MULTILINE).matcher(code).results().count();
+            Check.due(file + ": sentences", NAMED.matcher(code).results().count(), calls);
         }
     }
 
     static void eachSentenceOfTheDocumentIsNamedByATest() throws IOException {
-        Check.sentence("DOC.md", "each sentence of the Terms and of the promises is named by a test");
+        Check.sentence("SentencesTest", "each sentence of the Terms and of the promises is named by a test");
         List<Named> all = allNamed();
         sections().forEach((where, says) -> {
             if (!where.startsWith("Terms") && !where.startsWith("Promise")) return;
@@ -84,19 +96,23 @@ public final class SentencesTest {
         return text.replaceAll("\\s+", " ").trim();
     }
 
+    private static List<Path> files() throws IOException {
+        try (Stream<Path> found = Files.list(TESTS)) {
+            return found.filter(file -> file.toString().endsWith("Test.java")).sorted().toList();
+        }
+    }
+
     private static List<Named> allNamed() throws IOException {
         List<Named> all = new ArrayList<>();
-        List<Path> files;
-        try (Stream<Path> found = Files.list(TESTS)) {
-            files = found.filter(file -> file.toString().endsWith("Test.java")).sorted().toList();
-        }
-        for (Path file : files) {
+        for (Path file : files()) {
             String code = Files.readString(file);
             Map<String, String> constants = new LinkedHashMap<>();
             Matcher constant = CONSTANT.matcher(code);
             while (constant.find()) constants.put(constant.group(1), valueOf(constant.group(2), constants));
             Matcher named = NAMED.matcher(code);
-            while (named.find()) all.add(new Named(valueOf(named.group(1), constants), valueOf(named.group(2), constants)));
+            while (named.find()) {
+                all.add(new Named(valueOf(named.group(1), constants), valueOf(named.group(2), constants)));
+            }
         }
         return all;
     }

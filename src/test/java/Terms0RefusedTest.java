@@ -19,7 +19,8 @@ public final class Terms0RefusedTest {
     }
 
     static void unknownIsAheadOfOutside() {
-        Check.sentence("Terms", ORDER + " UNKNOWN -1 (there is no such DISH), OUTSIDE -2 (another number is not as told),");
+        Check.sentence("Terms", ORDER + " UNKNOWN -1 (there is no such DISH), "
+            + "OUTSIDE -2 (another number is not as told),");
         SparseDishes x = Check.dishesAt(5);
         for (int phase : Check.NO_PHASES) {
             Check.due("error(6, " + phase + ")", x.error(6, phase), Check.UNKNOWN);
@@ -29,8 +30,8 @@ public final class Terms0RefusedTest {
     }
 
     static void unknownIsAheadOfNo() {
-        Check.sentence("Terms", ORDER + " UNKNOWN -1 (there is no such DISH), OUTSIDE -2 (another number is not as told), "
-            + "NO -5 (as told),");
+        Check.sentence("Terms", ORDER + " UNKNOWN -1 (there is no such DISH), "
+            + "OUTSIDE -2 (another number is not as told), NO -5 (as told),");
         SparseDishes x = Check.dishesAt(5);
         Check.due("phase(6, 6)", x.phase(6, 6), Check.UNKNOWN);
         Check.due("phase(-1, -1)", x.phase(-1, -1), Check.UNKNOWN);
@@ -74,7 +75,8 @@ public final class Terms0RefusedTest {
     }
 
     static void outsideIsAheadOfFull() {
-        Check.sentence("Terms", "OUTSIDE -2 (another number is not as told), NO -5 (as told), STATE -3 (as told), FULL -4.");
+        Check.sentence("Terms", "OUTSIDE -2 (another number is not as told), NO -5 (as told), STATE -3 (as told), "
+            + "FULL -4.");
         SparseDishes x = Check.twelve();
         Check.dueOfAll("put", x::put, Check.OUTSIDE, Check.NO_STATIONS);
         Check.due("put(60)", x.put(60), Check.FULL);

@@ -2,6 +2,8 @@
 public final class Terms1DishesTest {
     private static final String REACH_WORDS =
         "REACH: the greatest number up to which each length from 1 on is there";
+    private static final String REPEATS_WORDS =
+        "REPEATS: of all lengths that are there, how often they are, less once each, together.";
 
     public static void main(String[] args) {
         Check.run(Terms1DishesTest.class);
@@ -178,7 +180,7 @@ public final class Terms1DishesTest {
     }
 
     static void noRepeatsWhereAllAreUnlike() {
-        Check.sentence("Terms 1", "REPEATS: of all lengths that are there, how often they are, less once each, together.");
+        Check.sentence("Terms 1", REPEATS_WORDS);
         Check.due("none: facts(4)", new SparseDishes().facts(4), 0);
         Check.due("one: facts(4)", Check.dishesAt(0).facts(4), 0);
         Check.due("two: facts(4)", Check.dishesAt(0, 60).facts(4), 0);
@@ -186,7 +188,7 @@ public final class Terms1DishesTest {
     }
 
     static void repeatsAreAllButOneOfEachLength() {
-        Check.sentence("Terms 1", "REPEATS: of all lengths that are there, how often they are, less once each, together.");
+        Check.sentence("Terms 1", REPEATS_WORDS);
         Check.due("one twice: facts(4)", Check.dishesAt(0, 30, 60).facts(4), 1);
         Check.due("one three times, one twice: facts(4)", Check.dishesAt(0, 20, 40, 60).facts(4), 3);
         Check.due("two twice: facts(4)", Check.dishesAt(0, 2, 4, 7, 8).facts(4), 2);

@@ -128,7 +128,7 @@ public final class Terms1LogTest {
         Check.sentence("Terms 1", UNDONE);
         SparseDishes x = Check.dishesAt(0, 60);
         x.error(60, 9);
-        x.lift(0);
+        x.lift(60);
         Check.due("undo()", x.undo(), 3);
         Check.stations("lift is taken back", x, 0, 60);
         Check.due("told(160)", x.told(160), 9);

@@ -53,7 +53,7 @@ public final class Terms2RulerTest {
         Check.due("ruler(7, 2): 21 to 24 in vain, 25", x.ruler(7, 2), 3235 + 4915 + 7238 + 10374 + 14521);
     }
 
-    /** Of 3 MARKS up to 3: 1 and 2 are tried, and behind each of them 3; with one less 1 alone, with one more 3, too. */
+    /** Of 3 MARKS up to 3: 1 and 2 are tried, and behind each of them 3. */
     static void theMarksTriedLeaveRoomForThoseToCome() {
         Check.sentence("Terms 2", MARK);
         Check.due("ruler(3, 2)", new SparseDishes().ruler(3, 2), 4);
