@@ -21,7 +21,10 @@ final class Check {
     /** No phase: below, above, and such as would be one if they were left over by 360. */
     static final int[] NO_PHASES = {-1, 360, -359, -360, 361, 719, 720, 512, MIN, MAX};
 
-    private static String sentence;
+    /** Far more than any class of tests needs: they end within a few seconds. */
+    private static final int MOST_SECONDS = 120;
+
+    private static volatile String sentence;
     private static int looked = 0;
     private static int wrong = 0;
 
@@ -59,6 +62,7 @@ final class Check {
 
     /** Does all tests of a class, by their names, and ends the machine with 1 if any answer was wrong. */
     static void run(Class<?> tests) {
+        failIfItDoesNotEnd();
         int number = 0;
         for (Method test : byName(tests.getDeclaredMethods())) {
             if (!isTest(test)) continue;
@@ -92,6 +96,21 @@ final class Check {
         due(when + ": facts(0)", x.facts(0), stations.length);
         row(when + ": station", x::station, 0, stations);
         due(when + ": station(" + stations.length + ")", x.station(stations.length), NONE);
+    }
+
+    /** A call that does not end is to be a test that has failed, and not one that is waited for. */
+    private static void failIfItDoesNotEnd() {
+        Thread watch = new Thread(() -> {
+            try {
+                Thread.sleep(MOST_SECONDS * 1000L);
+            } catch (InterruptedException e) {
+                return;
+            }
+            tell("has not ended in " + MOST_SECONDS + " seconds");
+            Runtime.getRuntime().halt(1);
+        });
+        watch.setDaemon(true);
+        watch.start();
     }
 
     private static void tell(String what) {
