@@ -84,6 +84,12 @@ public final class FaceTest {
         staticFieldsAreFinal(SparseDishes.class);
     }
 
+    static void methodsTakeFewAndClassesHoldFew() {
+        Check.sentence("LANGUAGE.md 11", "A method takes at most seven parameters.");
+        takesAndHoldsFew(SparseDishes.class);
+        for (Class<?> inside : SparseDishes.class.getDeclaredClasses()) takesAndHoldsFew(inside);
+    }
+
     static void whatTheProgramIsWithout() throws Exception {
         Check.sentence("LANGUAGE.md 2, 4, 6, 9", "No throw, try, catch, synchronized, assert");
         Path path = Path.of("src/main/java/SparseDishes.java");
@@ -106,6 +112,13 @@ public final class FaceTest {
             if (!Modifier.isPrivate(m.getModifiers())) continue;
             Check.holds(m + " does not bear the name of a public one", !names.contains(m.getName()));
         }
+    }
+
+    private static void takesAndHoldsFew(Class<?> c) {
+        for (Method m : c.getDeclaredMethods()) Check.holds(m + " takes few", m.getParameterCount() <= 7);
+        int fields = 0;
+        for (Field f : c.getDeclaredFields()) fields += Modifier.isStatic(f.getModifiers()) ? 0 : 1;
+        Check.holds(c + " has some twenty fields at most", fields <= 20);
     }
 
     private static void staticFieldsAreFinal(Class<?> c) {

@@ -13,6 +13,7 @@ import java.util.stream.Stream;
 public final class SentencesTest {
     private static final Path DOCUMENT = Path.of("../shared/DOC.md");
     private static final Path LANGUAGE = Path.of("../shared/LANGUAGE.md");
+    private static final Path README = Path.of("README.md");
     private static final Path TESTS = Path.of("src/test/java");
     private static final String LITERAL = "\"(?:[^\"\\\\]|\\\\.)*\"";
     /** A text, or the name of one, or several of them put together. */
@@ -38,6 +39,7 @@ public final class SentencesTest {
         Check.sentence("SentencesTest", "each sentence that a test names is there");
         Map<String, String> sections = sections();
         String language = oneLine(Files.readString(LANGUAGE));
+        sections.put("README.md", oneLine(Files.readString(README)));
         for (Named named : allNamed()) {
             if (named.where().equals("SentencesTest")) continue;
             String says = named.where().startsWith("LANGUAGE.md") ? language : sections.getOrDefault(named.where(), "");
